@@ -256,7 +256,8 @@ public final class SlabDunes {
         }
         int best = NONE;
         int most = NONE;
-        for (int row = 0; row < field.rows; row++) {
+        int rows = field.rows;
+        for (int row = 0; row < rows; row++) {
             int place = row * field.columns + column;
             int trapped = field.hasFence(place) ? NONE : trappedInTrial(place, steps);
             if (trapped > most) {

@@ -12,8 +12,8 @@ public final class DunesTest {
     private static void dunes(String text, int threshold, int number, int greatest) {
         SlabDunes x = Texts.field(text);
         long before = x.digest();
-        Check.equal(text + ": dunes(" + threshold + ")", x.dunes(threshold), number);
         Check.equal(text + ": greatestDune(" + threshold + ")", x.greatestDune(threshold), greatest);
+        Check.equal(text + ": dunes(" + threshold + ")", x.dunes(threshold), number);
         Check.equal(text + ": nothing changes", x.digest(), before);
     }
 
@@ -43,6 +43,10 @@ public final class DunesTest {
         SlabDunes x = new SlabDunes();
         x.begin(12, 16, 20);
         Check.equal("the whole field", x.dunes(20), 1);
+        x.begin(3, 3, 20);
+        Check.equal("nothing is left of a greater field", x.dunes(20), 1);
+        Check.equal("its slabs", x.greatestDune(20), 180);
+        x.undo();
         Check.equal("its slabs", x.greatestDune(20), 3840);
         Check.equal("its cells", x.duneOf(191, 20), 192);
         StringBuilder text = new StringBuilder();

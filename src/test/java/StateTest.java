@@ -143,8 +143,7 @@ public final class StateTest {
     }
 
     private static void promise27DigestSeesEachValue() {
-        Check.Call[] changes = new Check.Call[9];
-        for (int k = 0; k < changes.length; k++) {
+        for (int k = 0; k < 9; k++) {
             SlabDunes x = new SlabDunes();
             SlabDunes y = new SlabDunes();
             x.run(0);

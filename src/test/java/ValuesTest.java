@@ -5,6 +5,7 @@ public final class ValuesTest {
         promise11Cell();
         promise11Shadows();
         promise11ShadowsInLines();
+        promise11ShadowsDownLongLines();
         promise12Count();
         promise13Latest();
         promise14Slabs();
@@ -92,6 +93,17 @@ public final class ValuesTest {
         shaded(x, 0, "7 9 11 12 13");
     }
 
+    /** In lines of 12 rows and 3 columns: a shadow goes as far as its line. */
+    private static void promise11ShadowsDownLongLines() {
+        SlabDunes x = new SlabDunes();
+        x.begin(12, 3, 0);
+        x.setHeight(1, 6);
+        shaded(x, 1, "4 7 10 13 16 19 22");
+        shaded(x, 3, "16 19 22 25 28 31 34");
+        shaded(x, 0, "0 2");
+        shaded(x, 2, "0 2");
+    }
+
     private static void shaded(SlabDunes x, int direction, String due) {
         x.setWind(direction, SlabDunes.NONE);
         StringBuilder cells = new StringBuilder();
@@ -172,6 +184,9 @@ public final class ValuesTest {
         relief("2222/3333/4444/6666", 6, 12, 4, 0);
         relief("2346/2346/2346", 6, 3, 4, 0);
         relief("2222/2282/2222/2228", 8, 6, 6, 0);
+        relief("131/111/111", 3, 1, 2, 0);
+        relief("503/333/333", 5, 0, 5, 1);
+        relief("533/033/333", 5, 0, 5, 1);
         SlabDunes x = new SlabDunes();
         Check.refusesArgument(x, "relief(-1)", () -> x.relief(-1));
         Check.refusesArgument(x, "relief(4)", () -> x.relief(4));
@@ -182,6 +197,7 @@ public final class ValuesTest {
         Check.equal("without any", x.shadowHeight(), 0.0);
         Check.equal("2 and 1 behind 9", Texts.field("921/111/111").shadowHeight(), 1.5);
         Check.equal("1, 1 and 2", Texts.field("911200/000000/000000").shadowHeight(), 4.0 / 5.0);
+        Check.equal("the first cell", Texts.field("490/000/000").shadowHeight(), (4.0 + 0.0) / 2.0);
         Check.equal("bare ground alone", Texts.field("900/000/000").shadowHeight(), 0.0);
         SlabDunes y = Texts.field("911/921/931");
         Check.equal("a wind to the right", y.shadowHeight(), (1.0 + 1 + 2 + 1 + 3 + 1) / 6.0);
