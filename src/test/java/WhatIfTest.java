@@ -86,7 +86,7 @@ public final class WhatIfTest {
         x.set(3, 1);
         x.setWind(0, 0);
         int full = 0;
-        for (int steps = 300; steps <= 500; steps += 20) {
+        for (int steps = 300; steps <= 400; steps += 5) {
             int best = 0;
             int most = -1;
             for (int row = 0; row < 3; row++) {
