@@ -1,7 +1,16 @@
 /** Counts checks, tells the ones that fail, and ends a test with the exit code 1 if there was one. */
 final class Check {
+    private static final long MOST_SECONDS = 300;
+
     private static int passed = 0;
     private static int failed = 0;
+
+    // A call that does not end would hold up .ci/run for ever.
+    static {
+        Thread guard = new Thread(() -> waitAndHalt());
+        guard.setDaemon(true);
+        guard.start();
+    }
 
     interface Call {
         long answer();
@@ -52,6 +61,16 @@ final class Check {
         if (failed > 0) {
             System.exit(1);
         }
+    }
+
+    private static void waitAndHalt() {
+        try {
+            Thread.sleep(MOST_SECONDS * 1000);
+        } catch (InterruptedException e) {
+            Thread.currentThread().interrupt();
+        }
+        System.out.println("WRONG: a call does not end");
+        Runtime.getRuntime().halt(1);
     }
 
     private static void tell(boolean holds, String what) {

@@ -3,7 +3,7 @@ public final class FieldTest {
     public static void main(String[] args) {
         promise01NewObject();
         promise02Begin();
-        promise02BeginIsAsInitially();
+        promise02BeginOnAUsedField();
         promise02BeginRefuses();
         promise03SetHeight();
         promise03SetHeightRefuses();
@@ -18,17 +18,19 @@ public final class FieldTest {
         Check.end("FieldTest");
     }
 
-    private static void initially(String when, SlabDunes x, int rows, int columns, int height) {
+    private static void initially(String when, Fresh.Maker maker, int rows, int columns, int height) {
+        Fresh fresh = new Fresh(maker);
         int[] values = {3, 60, 40, 2, rows, columns, 0, 1, 0};
         for (int what = 0; what < values.length; what++) {
-            Check.equal(when + ": value(" + what + ")", x.value(what), values[what]);
+            Check.equal(when + ": value(" + what + ")", fresh.object().value(what), values[what]);
         }
         int[] numbers = {height, 0, -1, -1, 0, 0};
         for (int cell = 0; cell < rows * columns; cell++) {
             for (int what = 0; what < numbers.length; what++) {
-                Check.equal(when + ": cell(" + cell + ", " + what + ")", x.cell(cell, what), numbers[what]);
+                Check.equal(when + ": cell(" + cell + ", " + what + ")", fresh.object().cell(cell, what), numbers[what]);
             }
         }
+        SlabDunes x = maker.make();
         Check.refusesIndex(x, when + ": the cell behind the last", () -> x.cell(rows * columns, 0));
         for (int what = 0; what < 12; what++) {
             Check.equal(when + ": count(" + what + ")", x.count(what), 0);
@@ -39,8 +41,8 @@ public final class FieldTest {
     }
 
     private static void promise01NewObject() {
+        initially("new", () -> new SlabDunes(), 6, 10, 2);
         SlabDunes x = new SlabDunes();
-        initially("new", x, 6, 10, 2);
         Check.equal("the text of a new object", x.clearText(), 0);
         Check.refuses(x, "undo of a new object", IllegalStateException.class, () -> x.undo());
         SlabDunes other = new SlabDunes();
@@ -48,19 +50,13 @@ public final class FieldTest {
         Check.equal("objects share nothing", x.cell(0, 0), 2);
     }
 
-    private static void promise02Begin() {
-        SlabDunes x = new SlabDunes();
-        Check.equal("begin(3, 16, 20)", x.begin(3, 16, 20), 48);
-        initially("begin(3, 16, 20)", x, 3, 16, 20);
-        Check.equal("begin(12, 3, 0)", x.begin(12, 3, 0), 36);
-        initially("begin(12, 3, 0)", x, 12, 3, 0);
-        Check.equal("begin(12, 16, 1)", x.begin(12, 16, 1), 192);
-        initially("begin(12, 16, 1)", x, 12, 16, 1);
-        Check.equal("undo", x.undo(), 2);
-        initially("undo of begin", x, 12, 3, 0);
+    private static SlabDunes begun(int rows, int columns, int height) {
+        SlabDunes x = used();
+        Check.equal("begin(" + rows + ", " + columns + ", " + height + ")", x.begin(rows, columns, height), rows * columns);
+        return x;
     }
 
-    private static void promise02BeginIsAsInitially() {
+    private static SlabDunes used() {
         SlabDunes x = new SlabDunes();
         Texts.append(x, "12");
         x.set(0, 5);
@@ -73,8 +69,26 @@ public final class FieldTest {
         x.setHeight(3, 40);
         x.run(200);
         x.season();
-        Check.equal("begin", x.begin(4, 5, 6), 20);
-        initially("begin on a used field", x, 4, 5, 6);
+        return x;
+    }
+
+    private static void promise02Begin() {
+        initially("begin(3, 16, 20)", () -> begun(3, 16, 20), 3, 16, 20);
+        initially("begin(12, 3, 0)", () -> begun(12, 3, 0), 12, 3, 0);
+        initially("begin(12, 16, 1)", () -> begun(12, 16, 1), 12, 16, 1);
+        initially("begin(4, 5, 6)", () -> begun(4, 5, 6), 4, 5, 6);
+        initially("undo of begin", () -> undone(), 12, 3, 0);
+    }
+
+    private static SlabDunes undone() {
+        SlabDunes x = begun(12, 3, 0);
+        x.begin(12, 16, 1);
+        Check.equal("undo", x.undo(), 3);
+        return x;
+    }
+
+    private static void promise02BeginOnAUsedField() {
+        SlabDunes x = begun(4, 5, 6);
         Check.equal("the text stays", x.clearText(), 2);
         Check.equal("undo after begin", x.undo(), 3);
         Check.equal("the seasons are back", x.value(8), 1);

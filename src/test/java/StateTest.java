@@ -102,44 +102,41 @@ public final class StateTest {
         Check.refuses(x, "undo after calls that save nothing", IllegalStateException.class, () -> x.undo());
     }
 
-    /** The hash of the document, from the answers of the face; the text and the saved states are told. */
-    private static long hash(SlabDunes x, int length, int saved) {
-        long h = 31L * 3301L + length;
-        for (int what = 0; what <= 8; what++) {
-            h = 31 * h + x.value(what);
-        }
-        for (int cell = 0; cell < x.value(4) * x.value(5); cell++) {
-            for (int what = 0; what <= 5; what++) {
-                h = 31 * h + x.cell(cell, what);
-            }
-        }
-        for (int what = 0; what <= 11; what++) {
-            h = 31 * h + x.count(what);
-        }
-        for (int what = 0; what <= 3; what++) {
-            h = 31 * h + x.latest(what);
-        }
-        for (int threshold = 1; threshold <= 5; threshold++) {
-            h = 31 * h + x.dunes(threshold);
-        }
-        return 31 * h + saved;
+    private static void digest(String what, Fresh.Maker maker, int length, int saved) {
+        SlabDunes x = maker.make();
+        long due = new Fresh(maker).hash(length, saved);
+        Check.equal("digest of " + what, x.digest(), due);
+        Check.equal("digest of " + what + " again: it changes nothing", x.digest(), due);
     }
 
     private static void promise27Digest() {
+        digest("a new object", () -> new SlabDunes(), 0, 0);
+        digest("an object with a text", () -> withText(), 1, 0);
+        digest("a great field", () -> great(), 1, 4);
+        digest("a great field after undo", () -> greatAfterUndo(), 1, 3);
+    }
+
+    private static SlabDunes withText() {
         SlabDunes x = new SlabDunes();
-        Check.equal("digest of a new object", x.digest(), hash(x, 0, 0));
         x.append(9);
-        Check.equal("digest with a text", x.digest(), hash(x, 1, 0));
+        return x;
+    }
+
+    private static SlabDunes great() {
+        SlabDunes x = withText();
         x.begin(12, 16, 20);
         x.setTuft(191, 3);
         x.setFence(190, 4);
         x.setWind(3, 999999);
         x.run(2000);
         x.season();
-        Check.equal("digest of a great field", x.digest(), hash(x, 1, 4));
-        Check.equal("digest changes nothing", x.digest(), hash(x, 1, 4));
+        return x;
+    }
+
+    private static SlabDunes greatAfterUndo() {
+        SlabDunes x = great();
         x.undo();
-        Check.equal("digest after undo", x.digest(), hash(x, 1, 3));
+        return x;
     }
 
     private static void promise27DigestSeesEachValue() {

@@ -24,64 +24,52 @@ public final class StepsTest {
         Check.end("StepsTest");
     }
 
-    /** One step; tells the latest step, the heights and s by the number of numbers that were drawn. */
-    private static void step(String what, SlabDunes x, int direction, int s, String latest, String heights, int draws) {
-        x.setWind(direction, s);
-        int lifted = x.run(1);
-        Texts.same(what + ": the latest step", Texts.latest(x), latest);
-        Texts.same(what + ": the heights", Texts.heights(x), heights);
-        Check.equal(what + ": s", x.value(7), Chance.after(s, draws));
-        Check.equal(what + ": lifted", lifted, x.latest(0) >= 5 ? 1 : 0);
-        Check.equal(what + ": the reason is counted", x.count(x.latest(0)), 1);
-        Check.equal(what + ": steps", x.count(0), 1);
-    }
-
     private static void reason1BareGround() {
         SlabDunes x = Texts.field("100/000/000");
         x.setFence(4, 3);
         x.setTuft(4, 100);
-        step("bare and fenced", x, 0, Chance.seed(9, 4), "1 4 -1 0", "100/000/000", 1);
+        Step.is("bare and fenced", x, 0, Chance.seed(9, 4), "1 4 -1 0", "100/000/000", 1);
     }
 
     private static void reason2Fence() {
         SlabDunes x = Texts.field("910/000/000");
         x.setFence(1, 3);
         x.setTuft(1, 100);
-        step("fenced and shaded", x, 0, Chance.seed(9, 1), "2 1 -1 0", "910/000/000", 1);
+        Step.is("fenced and shaded", x, 0, Chance.seed(9, 1), "2 1 -1 0", "910/000/000", 1);
     }
 
     private static void reason3Shadow() {
         SlabDunes x = Texts.field("210/000/000");
         x.setTuft(1, 100);
-        step("shaded with a tuft", x, 0, Chance.seed(9, 1), "3 1 -1 0", "210/000/000", 1);
+        Step.is("shaded with a tuft", x, 0, Chance.seed(9, 1), "3 1 -1 0", "210/000/000", 1);
         SlabDunes y = Texts.field("012/000/000");
-        step("shaded by a wind to the left", y, 2, Chance.seed(9, 1), "3 1 -1 0", "012/000/000", 1);
+        Step.is("shaded by a wind to the left", y, 2, Chance.seed(9, 1), "3 1 -1 0", "012/000/000", 1);
     }
 
     private static void reason4Tuft() {
         SlabDunes x = Texts.field("111/111/111");
         x.setTuft(4, 50);
-        step("held", x, 0, Chance.seed(9, 4, 49, 49), "4 4 -1 0", "111/111/111", 2);
+        Step.is("held", x, 0, Chance.seed(9, 4, 49, 49), "4 4 -1 0", "111/111/111", 2);
         SlabDunes y = Texts.field("111/111/111");
         y.setTuft(4, 50);
         y.set(0, 1);
-        step("just not held", y, 0, Chance.seed(9, 4, 50, 50, 0, 59), "7 4 5 1", "111/102/111", 3);
+        Step.is("just not held", y, 0, Chance.seed(9, 4, 50, 50, 0, 59), "7 4 5 1", "111/102/111", 3);
         SlabDunes z = Texts.field("111/111/111");
         z.set(0, 1);
-        step("without a tuft a number is drawn, too", z, 0, Chance.seed(9, 4, 0, 0, 0, 59), "7 4 5 1", "111/102/111", 3);
+        Step.is("without a tuft a number is drawn, too", z, 0, Chance.seed(9, 4, 0, 0, 0, 59), "7 4 5 1", "111/102/111", 3);
     }
 
     private static void reason5Trapped() {
         SlabDunes x = Texts.field("1111111/0000000/0000000");
         x.setFence(2, 1);
-        step("trapped in the midst of a hop", x, 0, Chance.seed(21, 0, 0, 99), "5 0 2 1", "0121111/0000000/0000000", 2);
+        Step.is("trapped in the midst of a hop", x, 0, Chance.seed(21, 0, 0, 99), "5 0 2 1", "0121111/0000000/0000000", 2);
         Check.equal("the fence has trapped one", x.cell(2, 3), 1);
         SlabDunes y = Texts.field("1111111/0000000/0000000");
         y.setFence(5, 2);
-        step("trapped in the second hop", y, 0, Chance.seed(21, 0, 0, 99, 60, 99), "5 0 5 2", "0111121/0000000/0000000", 3);
+        Step.is("trapped in the second hop", y, 0, Chance.seed(21, 0, 0, 99, 60, 99), "5 0 5 2", "0111121/0000000/0000000", 3);
         SlabDunes z = Texts.field("1111111/0000000/0000000");
         z.setFence(3, 2);
-        step("trapped in the last cell of a hop", z, 0, Chance.seed(21, 0, 0, 99), "5 0 3 1", "0112111/0000000/0000000", 2);
+        Step.is("trapped in the last cell of a hop", z, 0, Chance.seed(21, 0, 0, 99), "5 0 3 1", "0112111/0000000/0000000", 2);
     }
 
     private static void reason5FencesThatAreFull() {
@@ -122,29 +110,29 @@ public final class StepsTest {
     private static void reason6ShadowWhereItLands() {
         SlabDunes x = Texts.field("2200000/0000000/0000000");
         x.set(0, 1);
-        step("into a shadow", x, 0, Chance.seed(21, 1, 0, 99), "6 1 2 1", "2110000/0000000/0000000", 2);
+        Step.is("into a shadow", x, 0, Chance.seed(21, 1, 0, 99), "6 1 2 1", "2110000/0000000/0000000", 2);
         // From the cell 0 of height 2 the shadow on bare ground ends before the distance 3: 2 * 5 is not above 4 * 3.
         SlabDunes y = Texts.field("2200000/0000000/0000000");
         y.set(0, 3);
         y.set(3, 5);
-        step("behind the shadow", y, 0, Chance.seed(21, 1, 0, 99, 0, 39), "7 1 4 1", "2100100/0000000/0000000", 3);
+        Step.is("behind the shadow", y, 0, Chance.seed(21, 1, 0, 99, 0, 39), "7 1 4 1", "2100100/0000000/0000000", 3);
     }
 
     private static void reason7Chance() {
         SlabDunes x = Texts.field("1100000/0000000/0000000");
         x.set(0, 3);
-        step("below the chance of bare ground", x, 0, Chance.seed(21, 1, 0, 99, 39, 39), "7 1 4 1",
+        Step.is("below the chance of bare ground", x, 0, Chance.seed(21, 1, 0, 99, 39, 39), "7 1 4 1",
             "1000100/0000000/0000000", 3);
         SlabDunes y = Texts.field("1100000/0000000/0000000");
         y.set(0, 2);
-        step("not below the chance of bare ground", y, 0, Chance.seed(21, 1, 0, 99, 40, 40, 0, 39), "7 1 5 2",
+        Step.is("not below the chance of bare ground", y, 0, Chance.seed(21, 1, 0, 99, 40, 40, 0, 39), "7 1 5 2",
             "1000010/0000000/0000000", 4);
         SlabDunes z = Texts.field("1111111/0000000/0000000");
-        step("below the chance of sand", z, 0, Chance.seed(21, 1, 0, 99, 59, 59), "7 1 4 1",
+        Step.is("below the chance of sand", z, 0, Chance.seed(21, 1, 0, 99, 59, 59), "7 1 4 1",
             "1011211/0000000/0000000", 3);
         SlabDunes v = Texts.field("1111111/0000000/0000000");
         v.set(0, 2);
-        step("not below the chance of sand", v, 0, Chance.seed(21, 1, 0, 99, 60, 60, 0, 59), "7 1 5 2",
+        Step.is("not below the chance of sand", v, 0, Chance.seed(21, 1, 0, 99, 60, 60, 0, 59), "7 1 5 2",
             "1011121/0000000/0000000", 4);
         tuftsHoldWhatLands();
     }
@@ -152,16 +140,16 @@ public final class StepsTest {
     private static void tuftsHoldWhatLands() {
         SlabDunes x = Texts.field("1111111/0000000/0000000");
         x.setTuft(4, 20);
-        step("the tuft adds to the chance of sand", x, 0, Chance.seed(21, 1, 0, 99, 79, 79), "7 1 4 1",
+        Step.is("the tuft adds to the chance of sand", x, 0, Chance.seed(21, 1, 0, 99, 79, 79), "7 1 4 1",
             "1011211/0000000/0000000", 3);
         SlabDunes y = Texts.field("1100000/0000000/0000000");
         y.setTuft(4, 20);
-        step("the tuft adds to the chance of bare ground", y, 0, Chance.seed(21, 1, 0, 99, 59, 59), "7 1 4 1",
+        Step.is("the tuft adds to the chance of bare ground", y, 0, Chance.seed(21, 1, 0, 99, 59, 59), "7 1 4 1",
             "1000100/0000000/0000000", 3);
         SlabDunes z = Texts.field("1100000/0000000/0000000");
         z.setTuft(4, 20);
         z.set(0, 3);
-        step("not below both", z, 0, Chance.seed(21, 1, 0, 99, 60, 60, 0, 39), "7 1 0 2",
+        Step.is("not below both", z, 0, Chance.seed(21, 1, 0, 99, 60, 60, 0, 39), "7 1 0 2",
             "2000000/0000000/0000000", 4);
     }
 
@@ -215,7 +203,7 @@ public final class StepsTest {
         x.set(3, 1);
         x.set(0, 3);
         // The slab of the cell 0 lands in the cell 3, comes to 3 there, and slides down to the cell 10.
-        step("a slab that lands slides", x, 0, Chance.seed(21, 0, 0, 99, 0, 59), "7 0 3 1", "1222222/2221200/2222222", 3);
+        Step.is("a slab that lands slides", x, 0, Chance.seed(21, 0, 0, 99, 0, 59), "7 0 3 1", "1222222/2221200/2222222", 3);
         Check.equal("one slide", x.count(9), 1);
     }
 
@@ -223,13 +211,13 @@ public final class StepsTest {
         SlabDunes x = Texts.field("33333/33333/35333/33333");
         x.set(3, 2);
         // The cell 6 comes to 2; the cell 11 below it with 5 is higher by 3, and slides to it.
-        step("a cell that lost a slab gets another", x, 0, Chance.seed(20, 6, 0, 99, 0, 59), "7 6 9 1",
+        Step.is("a cell that lost a slab gets another", x, 0, Chance.seed(20, 6, 0, 99, 0, 59), "7 6 9 1",
             "33333/33334/34333/33333", 3);
         Check.equal("one slide", x.count(9), 1);
         SlabDunes y = Texts.field("44444/46444/46444/46444/48444");
         y.set(3, 1);
         // The cell 6 comes to 5; the cell 11 below it with 6 is higher by 1, which is the slope.
-        step("no slide at the slope itself", y, 0, Chance.seed(25, 6, 0, 99, 0, 59), "7 6 9 1",
+        Step.is("no slide at the slope itself", y, 0, Chance.seed(25, 6, 0, 99, 0, 59), "7 6 9 1",
             "44444/45445/46444/46444/48444", 3);
         Check.equal("no slide", y.count(9), 0);
     }
@@ -280,12 +268,12 @@ public final class StepsTest {
     private static void slidesTakeTheLowestAndTheHighest() {
         SlabDunes x = Texts.field("44444/44344/44424/44344/44444");
         x.set(0, 2);
-        step("the lowest, not the first", x, 0, Chance.seed(25, 10, 0, 99, 0, 59), "7 10 12 1",
+        Step.is("the lowest, not the first", x, 0, Chance.seed(25, 10, 0, 99, 0, 59), "7 10 12 1",
             "44444/44344/34434/44344/44444", 3);
         SlabDunes y = Texts.field("22222/22322/22222/22422/22222");
         y.set(0, 2);
         y.set(3, 1);
-        step("the highest, not the first", y, 0, Chance.seed(25, 12, 0, 99, 0, 59), "7 12 14 1",
+        Step.is("the highest, not the first", y, 0, Chance.seed(25, 12, 0, 99, 0, 59), "7 12 14 1",
             "22222/22322/22223/22322/22222", 3);
     }
 
@@ -295,14 +283,14 @@ public final class StepsTest {
         x.set(3, 1);
         // The cell 11 comes to 1 and gets a slab of 12, this one of 7, this one of 2. The slab that hops to 12 comes
         // to 4 there and slides to 13, the first of the lowest.
-        step("a chain that fills", x, 0, Chance.seed(25, 11, 0, 99, 0, 59), "7 11 12 1",
+        Step.is("a chain that fills", x, 0, Chance.seed(25, 11, 0, 99, 0, 59), "7 11 12 1",
             "22422/22422/22332/22222/22222", 3);
         Check.equal("four slides", x.count(9), 4);
         SlabDunes y = Texts.field("44444/44444/44344/44244/44144");
         y.set(0, 2);
         y.set(3, 1);
         // The slab comes to 5 in the cell 7 and slides to 12, to 17 and to 22.
-        step("a chain that falls", y, 0, Chance.seed(25, 5, 0, 99, 0, 59), "7 5 7 1",
+        Step.is("a chain that falls", y, 0, Chance.seed(25, 5, 0, 99, 0, 59), "7 5 7 1",
             "44444/34444/44344/44244/44244", 3);
         Check.equal("three slides", y.count(9), 3);
     }
@@ -311,7 +299,7 @@ public final class StepsTest {
         SlabDunes x = Texts.field("2222222/2220200/2222222");
         x.set(3, 1);
         x.setFence(10, 5);
-        step("a slab slides to a fence", x, 0, Chance.seed(21, 0, 0, 99, 0, 59), "7 0 3 1", "1222222/2221200/2222222", 3);
+        Step.is("a slab slides to a fence", x, 0, Chance.seed(21, 0, 0, 99, 0, 59), "7 0 3 1", "1222222/2221200/2222222", 3);
         Check.equal("the fence has trapped nothing", x.cell(10, 3), 0);
     }
 
@@ -370,34 +358,13 @@ public final class StepsTest {
         Check.refusesArgument(x, "run(2001)", () -> x.run(2001));
     }
 
-    /** A field whose cell 4 has grown by this number since it was laid, without slides. */
-    private static SlabDunes grownBy(int growth, int tuft) {
-        SlabDunes x = Texts.field("555/555/555");
-        x.set(0, 1);
-        x.set(3, 5);
-        for (int k = 0; k < growth; k++) {
-            x.setHeight(3, 9);
-            x.setWind(0, Chance.seed(9, 3, 0, 99));
-            Check.equal("a slab is lifted", x.run(1), 1);
-        }
-        for (int k = 0; k < -growth; k++) {
-            x.setHeight(3, 1);
-            x.setHeight(5, 1);
-            x.setWind(0, Chance.seed(9, 4, 0, 99));
-            Check.equal("a slab is lifted", x.run(1), 1);
-        }
-        Check.equal("the cell has grown", x.cell(4, 5), growth);
-        x.setTuft(4, tuft);
-        return x;
-    }
-
     private static void promise09Season() {
         int[][] cases = {{2, 50, 60, 0}, {3, 50, 20, 1}, {0, 50, 60, 0}, {1, 91, 100, 0}, {2, 100, 100, 0},
             {3, 30, 0, 1}, {3, 29, 0, 1}, {3, 31, 1, 1}, {3, 0, 0, 0}, {0, 0, 0, 0}, {1, 1, 11, 0}, {4, 100, 70, 1},
             {-1, 50, 60, 0}, {-2, 50, 60, 0}, {-2, 95, 100, 0}, {-3, 50, 20, 1}, {-3, 20, 0, 1}, {-4, 100, 70, 1},
             {-3, 0, 0, 0}};
         for (int[] c : cases) {
-            SlabDunes x = grownBy(c[0], c[1]);
+            SlabDunes x = Grown.by(c[0], c[1]);
             String what = "growth " + c[0] + ", tuft " + c[1];
             Check.equal(what + ": season", x.season(), c[3]);
             Check.equal(what + ": the tuft", x.cell(4, 1), c[2]);
@@ -409,7 +376,7 @@ public final class StepsTest {
     }
 
     private static void promise09SeasonEdges() {
-        SlabDunes x = grownBy(2, 50);
+        SlabDunes x = Grown.by(2, 50);
         x.setTuft(0, 10);
         Check.equal("season", x.season(), 0);
         Check.equal("undo", x.undo(), 3);
@@ -429,7 +396,7 @@ public final class StepsTest {
     }
 
     private static void heightByHand() {
-        SlabDunes x = grownBy(4, 60);
+        SlabDunes x = Grown.by(4, 60);
         x.setHeight(4, 20);
         x.setTuft(0, 100);
         Check.equal("the height by hand is what counts", x.season(), 0);

@@ -130,32 +130,24 @@ public final class TextTest {
         error("-11/111/111", 0);
     }
 
-    private static String rows(int rows, String row) {
-        StringBuilder text = new StringBuilder(row);
-        for (int k = 1; k < rows; k++) {
-            text.append('/').append(row);
-        }
-        return text.toString();
-    }
-
     private static void promise25GreatTexts() {
         String row = "1234567890123456";
         SlabDunes x = new SlabDunes();
-        Check.equal("12 rows of 16", Texts.parse(x, rows(12, row)), 192);
-        Texts.same("its heights", Texts.heights(x), rows(12, row));
-        Check.equal("12 rows of 3", Texts.parse(x, rows(12, "123")), 36);
-        Check.equal("3 rows of 16", Texts.parse(x, rows(3, row)), 48);
-        error(rows(12, row) + "/", 203);
-        error(rows(12, row) + "1", 203);
-        error(rows(12, row) + "/" + row, 203);
-        error(rows(13, "111"), 47);
-        error(rows(12, "111") + "/", 47);
-        error(rows(11, "111") + "/", 44);
-        error(rows(11, "111") + "/11", 46);
+        Check.equal("12 rows of 16", Texts.parse(x, Texts.rows(12, row)), 192);
+        Texts.same("its heights", Texts.heights(x), Texts.rows(12, row));
+        Check.equal("12 rows of 3", Texts.parse(x, Texts.rows(12, "123")), 36);
+        Check.equal("3 rows of 16", Texts.parse(x, Texts.rows(3, row)), 48);
+        error(Texts.rows(12, row) + "/", 203);
+        error(Texts.rows(12, row) + "1", 203);
+        error(Texts.rows(12, row) + "/" + row, 203);
+        error(Texts.rows(13, "111"), 47);
+        error(Texts.rows(12, "111") + "/", 47);
+        error(Texts.rows(11, "111") + "/", 44);
+        error(Texts.rows(11, "111") + "/11", 46);
         error(row + "7", 16);
         error(row + "7/" + row, 16);
         error(row, 16);
         error(row + "/" + row + "7", 33);
-        error(rows(12, row).substring(0, 202), 202);
+        error(Texts.rows(12, row).substring(0, 202), 202);
     }
 }

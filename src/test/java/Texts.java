@@ -25,6 +25,15 @@ final class Texts {
         return x;
     }
 
+    /** So many rows, all like this one. */
+    static String rows(int rows, String row) {
+        StringBuilder text = new StringBuilder(row);
+        for (int k = 1; k < rows; k++) {
+            text.append('/').append(row);
+        }
+        return text.toString();
+    }
+
     /** The heights as a field text; a height above 9 in brackets. */
     static String heights(SlabDunes x) {
         StringBuilder text = new StringBuilder();

@@ -75,39 +75,39 @@ public final class ValuesTest {
     }
 
     private static void promise11ShadowsInLines() {
-        SlabDunes x = new SlabDunes();
-        x.begin(4, 7, 0);
-        x.setHeight(8, 2);
-        shaded(x, 0, "9 10");
-        shaded(x, 1, "15 22");
-        shaded(x, 2, "7 13");
-        shaded(x, 3, "1 22");
-        x.setHeight(8, 99);
-        shaded(x, 0, "7 9 10 11 12 13");
-        shaded(x, 1, "1 15 22");
-        shaded(x, 2, "7 9 10 11 12 13");
-        shaded(x, 3, "1 15 22");
-        x.setHeight(10, 97);
-        shaded(x, 0, "7 9 10 11 12 13");
-        x.setHeight(10, 98);
-        shaded(x, 0, "7 9 11 12 13");
+        int[][] low = {{8, 2}};
+        shaded(4, 7, low, 0, "9 10");
+        shaded(4, 7, low, 1, "15 22");
+        shaded(4, 7, low, 2, "7 13");
+        shaded(4, 7, low, 3, "1 22");
+        int[][] high = {{8, 99}};
+        shaded(4, 7, high, 0, "7 9 10 11 12 13");
+        shaded(4, 7, high, 1, "1 15 22");
+        shaded(4, 7, high, 2, "7 9 10 11 12 13");
+        shaded(4, 7, high, 3, "1 15 22");
+        shaded(4, 7, new int[][] {{8, 99}, {10, 97}}, 0, "7 9 10 11 12 13");
+        shaded(4, 7, new int[][] {{8, 99}, {10, 98}}, 0, "7 9 11 12 13");
     }
 
     /** In lines of 12 rows and 3 columns: a shadow goes as far as its line. */
     private static void promise11ShadowsDownLongLines() {
-        SlabDunes x = new SlabDunes();
-        x.begin(12, 3, 0);
-        x.setHeight(1, 6);
-        shaded(x, 1, "4 7 10 13 16 19 22");
-        shaded(x, 3, "16 19 22 25 28 31 34");
-        shaded(x, 0, "0 2");
-        shaded(x, 2, "0 2");
+        int[][] height = {{1, 6}};
+        shaded(12, 3, height, 1, "4 7 10 13 16 19 22");
+        shaded(12, 3, height, 3, "16 19 22 25 28 31 34");
+        shaded(12, 3, height, 0, "0 2");
+        shaded(12, 3, height, 2, "0 2");
     }
 
-    private static void shaded(SlabDunes x, int direction, String due) {
+    /** On a bare field with these heights: cell and height. */
+    private static void shaded(int rows, int columns, int[][] heights, int direction, String due) {
+        SlabDunes x = new SlabDunes();
+        x.begin(rows, columns, 0);
+        for (int[] height : heights) {
+            x.setHeight(height[0], height[1]);
+        }
         x.setWind(direction, SlabDunes.NONE);
         StringBuilder cells = new StringBuilder();
-        for (int cell = 0; cell < x.value(4) * x.value(5); cell++) {
+        for (int cell = 0; cell < rows * columns; cell++) {
             if (x.cell(cell, 4) == 1) {
                 cells.append(cells.length() > 0 ? " " : "").append(cell);
             }
