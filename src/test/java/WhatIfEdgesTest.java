@@ -196,6 +196,17 @@ public final class WhatIfEdgesTest {
         x.setWind(0, 1);
         // All sand of the row 0 goes to the fence in the column 1, whatever stands in the column 3.
         Check.equal("the row of the sand that is left", x.bestFence(3, 300), 2);
+        SlabDunes y = new SlabDunes();
+        y.begin(3, 5, 0);
+        y.set(3, 5);
+        y.setHeight(0, 5);
+        y.setHeight(5, 3);
+        y.setFence(4, 50);
+        y.setWind(0, 1);
+        // In the row 0 it takes 5 slabs from the other fence; in the row 1 it would take 3, but 8 with those of the other.
+        Check.equal("the row with the most sand before another fence", y.bestFence(3, 300), 0);
+        y.setHeight(0, 2);
+        Check.equal("less sand there", y.bestFence(3, 300), 1);
     }
 
     /** "a new fence with the capacity 50": it takes a fiftieth slab, and not one more. */
