@@ -13,6 +13,7 @@ public final class ValueEdgesTest {
         slabsInEveryCell();
         greatestHeight();
         lowestCellOfSeveral();
+        cellsOfTheFieldAlone();
         differenceOverEachEdge();
         differenceOfEachPair();
         differenceWithoutAny();
@@ -222,6 +223,25 @@ public final class ValueEdgesTest {
         Check.equal("the one before", x.relief(1), 190);
         x.setHeight(0, 21);
         Check.equal("the first one", x.relief(1), 0);
+    }
+
+    /** "0 the greatest height, 1 the lowest cell that has it": what greater fields had before does not matter. */
+    private static void cellsOfTheFieldAlone() {
+        SlabDunes x = new SlabDunes();
+        x.begin(12, 16, 20);
+        x.setHeight(9, 99);
+        x.setHeight(191, 99);
+        x.begin(3, 3, 20);
+        for (int cell = 0; cell < 9; cell++) {
+            x.setHeight(cell, cell == 4 ? 2 : 1);
+        }
+        Check.equal("the greatest height", x.relief(0), 2);
+        Check.equal("its cell", x.relief(1), 4);
+        Check.equal("the difference", x.relief(2), 1);
+        Check.equal("bare cells", x.relief(3), 0);
+        Check.equal("slabs", x.slabs(), 10);
+        Check.equal("dunes", x.dunes(1), 1);
+        Check.equal("the greatest dune", x.greatestDune(1), 10);
     }
 
     /** "2 the greatest difference of heights of two neighbors": over each edge of the field, up and down. */
